@@ -69,7 +69,6 @@ public final class TermsTest {
         due.is("four votes are R at once", x.client(0, 1), 2);
     }
 
-
     /** Takes away what is no longer waited for. */
     private static void loseOld(VotedFile x) {
         int newest = x.about(2);
