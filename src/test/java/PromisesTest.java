@@ -271,6 +271,8 @@ public final class PromisesTest {
             due.is("settle(4)", full.settle(4), 4);
         }
         due.is("read(0) with 200 acts", full.read(0), NONE);
+        due.is("act(200, 2)", full.act(200, 2), 996);
+        due.is("act(200, 3)", full.act(200, 3), 1000);
         due.is("about(2)", full.about(2), 200);
         due.is("about(3)", full.about(3), 0);
         due.is("about(4)", full.about(4), 1000);
@@ -335,6 +337,8 @@ public final class PromisesTest {
             due.is("halt(2)", full.halt(2), a);
         }
         due.is("write(2, 1) with 200 acts", full.write(2, 1L), NONE);
+        due.is("value(200)", full.value(200), 200L);
+        due.is("value(201)", full.value(201), 0L);
         due.is("about(2)", full.about(2), 200);
         due.is("about(4)", full.about(4), 400);
         due.is("about(3)", full.about(3), 200);
@@ -544,6 +548,34 @@ public final class PromisesTest {
         due.is("act(1, 3)", x.act(1, 3), 12);
         twiceWithoutRoom();
         twiceKeepsWhatItHolds();
+        theSecondTellsAllThatTheFirstDid();
+    }
+
+    private static void theSecondTellsAllThatTheFirstDid() {
+        VotedFile x = new VotedFile(1);
+        x.write(0, 41L);
+        due.is("settle(2)", x.settle(2), 2);
+        x.twice(0);
+        x.lose(0);
+        due.is("deliver(0): the second store alone", x.deliver(0), true);
+        due.is("kept(0)", x.kept(0), 41L);
+        due.is("settle(1)", x.settle(1), 1);
+        x.change(1, 1);
+        due.is("settle(6)", x.settle(6), 6);
+        x.read(1);
+        x.deliver(0);
+        x.twice(0);
+        x.lose(0);
+        due.is("air(0, 5)", x.air(0, 5), 1);
+        due.is("deliver(0): the second answer alone", x.deliver(0), true);
+        due.is("client(1, 2)", x.client(1, 2), 1);
+        due.is("client(1, 3)", x.client(1, 3), 1);
+        x.deliver(0);
+        x.twice(0);
+        x.lose(0);
+        due.is("settle(10)", x.settle(10), 3);
+        due.is("value(3)", x.value(3), 41L);
+        due.is("act(3, 5)", x.act(3, 5), 1);
     }
 
     private static void twiceWithoutRoom() {
