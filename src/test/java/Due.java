@@ -29,6 +29,19 @@ final class Due {
         is(call, got ? 1L : 0L, want ? 1L : 0L);
     }
 
+    /** Two texts of lines, of which the first that differ are told. */
+    void same(String call, String got, String want) {
+        String[] gotLines = got.split("\n");
+        String[] wantLines = want.split("\n");
+        int line = 0;
+        while (line < gotLines.length && line < wantLines.length && gotLines[line].equals(wantLines[line])) {
+            line++;
+        }
+        String gotLine = line < gotLines.length ? gotLines[line] : "no more";
+        String wantLine = line < wantLines.length ? wantLines[line] : "no more";
+        is(call + " (" + gotLine + "; due is " + wantLine + ")", got.equals(want), true);
+    }
+
     boolean allRight() {
         return wrong == 0;
     }

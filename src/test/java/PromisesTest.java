@@ -1,7 +1,7 @@
 /** One part for each promise of the document: ordinary inputs, the edges it names, wrong inputs. */
 public final class PromisesTest {
     private static final int NONE = VotedFile.NONE;
-    private static final int[] FAR = {Integer.MIN_VALUE, -1000, 1000, Integer.MAX_VALUE};
+    private static final int[] FAR = Steps.FAR;
     private static final Due due = new Due("PromisesTest");
 
     public static void main(String[] args) {

@@ -22,26 +22,14 @@ public final class TermsTest {
         due.end();
     }
 
-    /** Delivers the first that lies in the air for a copy and a phase, request (0) or answer (1). */
     private static void pass(VotedFile x, int kind, int copy, int client, int phase) {
-        for (int k = 0; k < x.about(3); k++) {
-            if (x.air(k, 0) == kind && x.air(k, 1) == copy && x.air(k, 2) == client && x.air(k, 4) == phase) {
-                due.is("deliver(" + k + ")", x.deliver(k), true);
-                return;
-            }
-        }
-        due.is("something lies there for copy " + copy + " in phase " + phase, 0, 1);
+        String name = (kind == 0 ? "request to" : "answer of") + " copy " + copy + ", client " + client;
+        due.is(name + " in phase " + phase + " is delivered", Steps.pass(x, kind, copy, client, phase), true);
     }
 
     private static void exchange(VotedFile x, int copy, int client, int phase) {
         pass(x, 0, copy, client, phase);
         pass(x, 1, copy, client, phase);
-    }
-
-    private static void loseAll(VotedFile x) {
-        for (int k = x.about(3) - 1; k >= 0; k--) {
-            x.lose(k);
-        }
     }
 
     private static void weightedQuorums() {
@@ -134,7 +122,7 @@ public final class TermsTest {
         pass(x, 0, 0, 0, 2);
         due.is("kept(0)", x.kept(0), 90L);
         x.halt(0);
-        loseAll(x);
+        Steps.loseAll(x);
         due.is("change(2, 2)", x.change(2, 2), 2);
         exchange(x, 1, 0, 3);
         exchange(x, 2, 0, 3);
@@ -144,12 +132,12 @@ public final class TermsTest {
         due.is("copy(0, 2)", x.copy(0, 2), 1);
         due.is("copy(1, 2)", x.copy(1, 2), 0);
         due.is("act(2, 4): neither of them had it", x.act(2, 4), 0);
-        loseAll(x);
+        Steps.loseAll(x);
         due.is("read(1)", x.read(1), 3);
         exchange(x, 0, 1, 1);
         due.is("client(1, 2)", x.client(1, 2), 1);
         due.is("client(1, 5)", x.client(1, 5), 0);
-        loseAll(x);
+        Steps.loseAll(x);
         due.is("again(1)", x.again(1), 3);
         due.is("air(0, 8)", x.air(0, 8), 2);
         exchange(x, 1, 1, 1);
@@ -225,7 +213,7 @@ public final class TermsTest {
         x.silent(2, true);
         due.is("write(2, 66)", x.write(2, 66L), 1);
         x.settle(100);
-        loseAll(x);
+        Steps.loseAll(x);
         x.silent(2, false);
         x.silent(0, true);
         x.votes(0, 0);
@@ -270,7 +258,7 @@ public final class TermsTest {
         x.votes(0, 3);
         due.is("change(3, 3) of 5 votes", x.change(3, 3), 1);
         due.is("halt(0)", x.halt(0), 1);
-        loseAll(x);
+        Steps.loseAll(x);
         due.is("write(0, 7)", x.write(0, 7L), 2);
         exchange(x, 0, 0, 1);
         due.is("R of table 1 but not of table 0", x.client(0, 1), 1);
